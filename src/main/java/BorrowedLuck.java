@@ -1154,7 +1154,6 @@ public final class BorrowedLuck {
             this.told = told;
         }
 
-        @Override
         boolean readsLine() {
             if (told.women < MOST_WOMEN && tape.takesWord(WORD_WOMAN)) {
                 return readsWoman(told.women);
@@ -1240,7 +1239,6 @@ public final class BorrowedLuck {
             this.told = told;
         }
 
-        @Override
         boolean readsLine() {
             if (tape.takesWord(WORD_STICK)) {
                 told.addLine(STICK_LINE, 1);
@@ -1558,17 +1556,19 @@ public final class BorrowedLuck {
 
         void remember(Coast c) {
             newest = (newest + 1) % ACTS_MOST;
-            size = Math.min(ACTS_MOST, size + 1);
-            if (newest >= 0 && newest < ACTS_MOST) {
-                ahead[newest].copyFrom(c);
+            Coast latest = newest >= 0 && newest < ACTS_MOST ? ahead[newest] : null;
+            if (latest != null) {
+                latest.copyFrom(c);
+                size = Math.min(ACTS_MOST, size + 1);
             }
         }
 
         boolean bringBack(Coast c) {
-            if (size <= 0 || newest < 0 || newest >= ACTS_MOST) {
+            Coast latest = newest >= 0 && newest < ACTS_MOST ? ahead[newest] : null;
+            if (size <= 0 || latest == null) {
                 return false;
             }
-            c.copyFrom(ahead[newest]);
+            c.copyFrom(latest);
             newest = (newest + ACTS_MOST - 1) % ACTS_MOST;
             size--;
             return true;
