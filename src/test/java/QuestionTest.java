@@ -61,6 +61,14 @@ public final class QuestionTest {
         Check.due("so 1 is the first", late.order(0, 3, 0), 1);
         late.pawn(0);
         Check.due("pawned or not", late.order(0, 3, 1), 0);
+
+        BorrowedLuck three = Check.coast("woman 0 0 0 0 purse 0;woman 80 0 0 0 purse 0;woman 40 0 0 0 purse 0;"
+                + "thing 0 0 0 0 of 0", "flow 60");
+        Check.due("by 1, 2, 0: -40, 0, 20", three.order(0, 7, -1), -20);
+        int[] row = {1, 2, 0, -1};
+        for (int k = 0; k < row.length; k++) {
+            Check.due("the best row of three: " + k, three.order(0, 7, k), row[k]);
+        }
     }
 
     private static void promise20Lowest() {
@@ -80,6 +88,7 @@ public final class QuestionTest {
         BorrowedLuck x = Check.coast(Check.THREE);
         String was = Check.seen(x);
         Check.due("she has it", x.reach(0, 0, 0, 10), 0);
+        Check.due("1 by one", x.reach(2, 0, 0, 1), 1);
         Check.due("by one", x.reach(2, 0, 0, 10), 1);
         Check.due("by two", x.reach(2, 0, 0, 20), 2);
         Check.due("never", x.reach(2, 0, 0, 21), -1);
@@ -88,6 +97,7 @@ public final class QuestionTest {
         Check.due("by 20", slow.reach(0, 0, 0, 20), 20);
         Check.due("not by 21", slow.reach(0, 0, 0, 21), -1);
         Check.due("the most", slow.reach(0, 0, 0, 99), -1);
+        Check.due("99 is had", Check.coast("woman 99 0 0 0 purse 0;thing 0 0 0 0 of 0").reach(0, 0, 0, 99), 0);
         Check.noNumber("x is 0", () -> x.reach(0, 0, 0, 0));
         Check.noNumber("x is 100", () -> x.reach(0, 0, 0, 100));
         Check.noSuch("no sort, and x is 0", () -> x.reach(0, 0, 4, 0));

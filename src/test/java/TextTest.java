@@ -179,7 +179,13 @@ public final class TextTest {
         coastFault(WOMAN + ";thing 1 2 3 4 of 0 with 1", 46);
         coastFault(WOMAN + ";thing 1 2 3 4 of 0 with 0 worn 1", 48);
         coastFault(WOMAN + ";thing 1 2 3 4 of 0 blue with 0", 46);
+        coastFault(WOMAN + ";thing 1 2 3 4", 35);
+        coastFault(WOMAN + ";thing 1 2 3 4 of", 38);
+        coastFault(WOMAN + ";thing 1 2 3 4 of 0 worn", 45);
+        coastFault(WOMAN + ";thing 1 2 3 4 of 0 with", 45);
         coastFault("price", 5);
+        coastFault("love", 4);
+        coastFault("day ", 4);
         coastFault("price 51", 6);
         coastFault("price 5 6", 8);
         coastFault("love 101", 5);
