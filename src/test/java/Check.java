@@ -1,3 +1,5 @@
+import java.util.NoSuchElementException;
+
 /** What all tests of the project use: telling texts, and counting answers that are not due. */
 final class Check {
     /** Three WOMEN, the last a WIDOW, and three THINGS, of which the WOMAN 0 HOLDS two. */
@@ -6,6 +8,7 @@ final class Check {
 
     private static int wrong = 0;
     private static int checked = 0;
+    private static String sentence = "";
 
     private Check() {
     }
@@ -14,11 +17,20 @@ final class Check {
         void run();
     }
 
+    /** The words of the document that the checks from here on hold to. */
+    static void says(String words) {
+        sentence = words;
+    }
+
+    private static void tell(String what) {
+        wrong++;
+        System.out.println((sentence.isEmpty() ? "" : "\"" + sentence + "\": ") + what);
+    }
+
     static void due(String what, long got, long want) {
         checked++;
         if (got != want) {
-            wrong++;
-            System.out.println(what + " answered " + got + ", due is " + want);
+            tell(what + " answered " + got + ", due is " + want);
         }
     }
 
@@ -35,8 +47,7 @@ final class Check {
             got = e.getClass().getName();
         }
         if (!got.equals(want.getName())) {
-            wrong++;
-            System.out.println(what + " throws " + got + ", due is " + want.getName());
+            tell(what + " throws " + got + ", due is " + want.getName());
         }
     }
 
@@ -50,6 +61,23 @@ final class Check {
 
     static void cannotBe(String what, Call call) {
         fails(what, IllegalStateException.class, call);
+    }
+
+    static void noElement(String what, Call call) {
+        fails(what, NoSuchElementException.class, call);
+    }
+
+    /** A call that throws, leaves all as it was, and leaves a TAPE that it does not read alone. */
+    static void refused(BorrowedLuck x, String what, Class<? extends RuntimeException> want, Call call) {
+        String was = seen(x);
+        int fault = x.fault();
+        tape(x, "price 50");
+        fails(what, want, call);
+        due(what + ": the tape has no more", x.end(9), false);
+        due(what + ": the tape has no less", x.end(8), true);
+        x.end(0);
+        due(what + ": fault() behind it", x.fault(), fault);
+        same(what + ": behind it all", seen(x), was);
     }
 
     /** Puts signs 0 to 255 on the TAPE, in place of what is there. */
@@ -103,6 +131,10 @@ final class Check {
                 all.append(x.log(ago, what)).append(' ');
             }
         }
+        int things = x.count(1);
+        for (int i = 0; i < x.count(0) * things * 4; i++) {
+            all.append(x.flows(i / 4 / things, i / 4 % things, i % 4)).append(' ');
+        }
         int seed = x.seed(1);
         x.seed(seed);
         return all.append(seed).toString();
@@ -111,8 +143,7 @@ final class Check {
     static void same(String what, String got, String want) {
         checked++;
         if (!got.equals(want)) {
-            wrong++;
-            System.out.println(what + " shows " + got + ", due is " + want);
+            tell(what + " shows " + got + ", due is " + want);
         }
     }
 

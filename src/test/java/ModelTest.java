@@ -135,6 +135,10 @@ public final class ModelTest {
                 all.append(model.log(ago, what)).append(' ');
             }
         }
+        int things = model.count(1);
+        for (int i = 0; i < model.count(0) * things * 4; i++) {
+            all.append(model.flows(i / 4 / things, i / 4 % things, i % 4)).append(' ');
+        }
         return all.append(model.now.seed).toString();
     }
 
