@@ -12,6 +12,7 @@ public final class MemoryEdgeTest {
         undoOfTwelve();
         undoAndActsAgain();
         undoOfDaysOfOneCall();
+        undoOfAFullLog();
         undoIsForgottenByTexts();
         undoIsForgottenByGoingBack();
         undoButForTheTape();
@@ -201,6 +202,31 @@ public final class MemoryEdgeTest {
         Check.due("one act", x.count(11), 1);
         x.undo();
         Check.same("all 60 are undone", Check.seen(x), was);
+    }
+
+    private static void undoOfAFullLog() {
+        Check.says("all is as ahead of it (but for the TAPE, fault(), THE IMAGE)");
+        for (int rows = 0; rows <= 60; rows += 12) {
+            BorrowedLuck x = Check.coast("woman 9 8 7 6 purse 9;woman 1 2 3 4 purse 0;thing 50 40 30 20 of 0;thing 0 9 8 7 of 1", "flow 2");
+            if (rows > 0) {
+                x.days(rows);
+            }
+            String was = Check.seen(x);
+            x.image();
+            x.days(50);
+            x.days(60);
+            x.undo();
+            x.undo();
+            Check.same("rows of the log, undone: " + rows, Check.seen(x), was);
+            x.days(60);
+            x.back();
+            Check.same("rows of the log, gone back to: " + rows, rest(Check.seen(x)), rest(was));
+        }
+    }
+
+    /** All that is seen but for how many acts can be undone, the twelfth number. */
+    private static String rest(String seen) {
+        return seen.replaceFirst("^((\\S+ ){11})\\S+ ", "$1");
     }
 
     private static void undoIsForgottenByTexts() {

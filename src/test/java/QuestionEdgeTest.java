@@ -133,6 +133,12 @@ public final class QuestionEdgeTest {
             Check.due("the " + k + "-th", x.order(0, 31, k), row[k]);
         }
         Check.due("lowest: 0, 15, 7, 4, 2 by any row with 2 ahead", x.lowest(0, 31), 2);
+        BorrowedLuck last = Check.coast(WOMAN + ";woman 16 0 0 0 purse 0;woman 32 0 0 0 purse 0;woman 64 0 0 0 purse 0;"
+                + "woman 96 0 0 0 purse 0;" + THING, "flow 60");
+        Check.due("-48, -8, 12, 14, 15", last.order(0, 31, -1), -15);
+        for (int k = 0; k < 5; k++) {
+            Check.due("the last of all rows: " + k, last.order(0, 31, k), 4 - k);
+        }
     }
 
     private static void orderChangesNothing() {
@@ -158,6 +164,10 @@ public final class QuestionEdgeTest {
         Check.due("five", x.lowest(0, 31), 4);
         BorrowedLuck poor = Check.coast(WOMAN + ";" + THING);
         Check.due("who have none", poor.lowest(0, 1), 0);
+        BorrowedLuck some = Check.coast(WOMAN + ";woman 9 9 9 9 purse 0;woman 8 8 8 8 purse 0;" + THING, "");
+        Check.due("all three", some.lowest(0, 7), 0);
+        Check.due("without her who has none", some.lowest(0, 6), 32);
+        Check.due("one alone", some.lowest(0, 2), 36);
     }
 
     private static void reachOfNumbers() {
@@ -575,6 +585,10 @@ public final class QuestionEdgeTest {
         spans(14, 0, 1);
         spans(91, 0, 1);
         spans(92, 1, 1);
+        // Luck of so many DAYS from SEED 0, 1, .. 7; the first and the last do not count.
+        spansOf(6, 40, new int[] {3, 4, 3, 1, 2, 1, 1, 0});
+        spansOf(7, 85, new int[] {4, 7, 5, 5, 5, 6, 6, 6});
+        spansOf(7, 66, new int[] {4, 4, 4, 3, 3, 4, 4, 5});
         BorrowedLuck x = Check.coast("woman 1 2 3 4 purse 0;thing 1 2 3 4 of 0;love 50");
         x.seed(99);
         String was = Check.seen(x);
@@ -604,6 +618,23 @@ public final class QuestionEdgeTest {
         x.seed(51);
         Check.due("the least of a day, love " + love, x.span(1, false), least);
         Check.due("the greatest of a day, love " + love, x.span(1, true), most);
+    }
+
+    private static void spansOf(int days, int love, int[] bySeed) {
+        int least = Integer.MAX_VALUE;
+        int most = Integer.MIN_VALUE;
+        for (int seed = 0; seed < bySeed.length; seed++) {
+            BorrowedLuck one = Check.coast(WOMAN + ";" + THING + ";love " + love, "");
+            one.seed(seed);
+            Check.due(days + " days from seed " + seed, one.trial(days, false), bySeed[seed]);
+            if (seed >= 1 && seed <= 6) {
+                least = Math.min(least, bySeed[seed]);
+                most = Math.max(most, bySeed[seed]);
+            }
+        }
+        BorrowedLuck x = Check.coast(WOMAN + ";" + THING + ";love " + love, "");
+        Check.due("the least of " + days + " days", x.span(days, false), least);
+        Check.due("the greatest of " + days + " days", x.span(days, true), most);
     }
 
     private static void ledByNone() {

@@ -163,6 +163,8 @@ public final class TextEdgeTest {
         rightLaw("flow 60 if own ; ".repeat(11) + "flow 60 if own", 12);
         flows("flow 60 if own ; ".repeat(11) + "flow 60 if own", 720);
         flows("flow 1;".repeat(11) + "flow 60", 71);
+        flows("flow 1;".repeat(11) + "flow 60 if not own", 11);
+        flows("flow 1 if not own;" + "flow 2;".repeat(10) + "flow 60 if own", 80);
     }
 
     private static void numbersOfLaw() {
@@ -238,6 +240,13 @@ public final class TextEdgeTest {
         wrong("lo ve 1", 0);
         wrong("Love 1", 0);
         wrong("lovE 1", 0);
+        wrong("lovea 1", 0);
+        wrong("lovez 1", 0);
+        wrong("zlove 1", 0);
+        wrong("love 1 ; dayz2", 9);
+        wrong("love 1z", 6);
+        wrongLaw("stick if ownz", 9);
+        wrongLaw("stick if has<1z", 14);
         wrong(WOMAN + " wedwidow", 22);
         wrong(WOMAN + " widows", 22);
         wrong("woman 1 1 1 1 purses 1", 14);
