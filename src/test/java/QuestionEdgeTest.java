@@ -291,6 +291,7 @@ public final class QuestionEdgeTest {
         BorrowedLuck ties = Check.coast("woman 1 1 2 2 purse 0;woman 1 2 1 2 purse 0;woman 1 2 2 1 purse 0");
         next("", ties, 1);
         next("\001\002", ties, 2);
+        next("", Check.coast("woman 1 1 1 1 purse 1;woman 1 1 1 1 purse 2 wed 3;woman 1 1 1 1 purse 3 widow"), 0);
     }
 
     private static void matchOfFive() {
@@ -507,6 +508,7 @@ public final class QuestionEdgeTest {
             String other = ";thing" + " 0".repeat(s) + " 1" + " 0".repeat(3 - s) + " of 0";
             Check.due("unlike in " + s, Check.coast(WOMAN + ";" + THING + other).alike(), 0);
         }
+        Check.due("alike but for all else", Check.coast(WOMAN + ";" + WOMAN + ";" + THING + ";thing 0 0 0 0 of 1 worn 9 with 0 blue").alike(), 1);
     }
 
     private static void shareWithout() {
