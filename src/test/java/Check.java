@@ -24,7 +24,16 @@ final class Check {
 
     private static void tell(String what) {
         wrong++;
-        System.out.println((sentence.isEmpty() ? "" : "\"" + sentence + "\": ") + what);
+        System.out.println((sentence.isEmpty() ? "" : "\"" + sentence + "\": ") + plain(what));
+    }
+
+    /** Signs that a page cannot show are told by their numbers. */
+    private static String plain(String what) {
+        StringBuilder told = new StringBuilder();
+        for (char sign : what.toCharArray()) {
+            told.append(sign >= 32 && sign < 127 ? String.valueOf(sign) : "{" + (int) sign + "}");
+        }
+        return told.toString();
     }
 
     static void due(String what, long got, long want) {
